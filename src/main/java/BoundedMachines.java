@@ -499,7 +499,7 @@ public final class BoundedMachines {
         }
 
         private boolean step(int word) {
-            lane = word & net.wordCount - 1;
+            lane = word & (net.wordCount - 1);
             net.settle(row, lanes);
             firstPair = net.firstDifferingPair(lane, lanes);
             row = net.rowAfter(lane, lanes);

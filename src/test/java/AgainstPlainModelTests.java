@@ -49,18 +49,53 @@ public final class AgainstPlainModelTests {
     }
 
     private void run() {
-        int build = random.nextInt(60);
-        for (int k = 0; k < build; k++) {
-            change();
+        if (random.nextInt(3) == 0) {
+            buildDeep();
+        } else {
+            int build = random.nextInt(60);
+            for (int k = 0; k < build; k++) {
+                change();
+            }
         }
         for (int k = 0; k < 60; k++) {
-            if (random.nextInt(15) == 0) {
+            if (random.nextInt(25) == 0) {
                 change();
             } else {
                 ask();
             }
         }
         askAll();
+    }
+
+    private int gate(int op, int a, int b) {
+        both("gate(" + op + ", " + a + ", " + b + ")", () -> plain.gate(op, a, b), () -> made.gate(op, a, b));
+        return plain.count(1) - 1;
+    }
+
+    private void next(int state, int node) {
+        both("next(" + state + ", " + node + ")", () -> plain.next(state, node), () -> made.next(state, node));
+    }
+
+    private void compare(int a, int b) {
+        both("compare(" + a + ", " + b + ")", () -> plain.compare(a, b), () -> made.compare(a, b));
+    }
+
+    /** States that flip by one another, and a pair that differs in few rows alone: levels are many. */
+    private void buildDeep() {
+        int states = 2 + random.nextInt(7);
+        for (int s = 0; s < states; s++) {
+            addState(s % 2, random.nextBoolean());
+        }
+        int carry = random.nextInt(plain.count(0));
+        int rare = gate(5, 0, 0);
+        for (int s = 0; s < states; s++) {
+            int state = stateNodes.get(s);
+            next(state, gate(2, state, carry));
+            int other = random.nextInt(3) == 0 ? random.nextInt(plain.count(1)) : state;
+            carry = gate(random.nextInt(8) == 0 ? 1 : 0, carry, other);
+            rare = gate(0, rare, random.nextInt(3) == 0 ? gate(3, state, 0) : state);
+        }
+        compare(rare, gate(4, 0, 0));
     }
 
     private void change() {
@@ -73,17 +108,12 @@ public final class AgainstPlainModelTests {
             }
         } else if (kind < 13) {
             int op = random.nextInt(40) == 0 ? odd() : random.nextInt(random.nextInt(4) == 0 ? 6 : 4);
-            int a = node();
-            int b = node();
-            both("gate(" + op + ", " + a + ", " + b + ")", () -> plain.gate(op, a, b), () -> made.gate(op, a, b));
+            gate(op, node(), node());
         } else if (kind < 19) {
-            int state = stateNode();
-            int node = node();
-            both("next(" + state + ", " + node + ")", () -> plain.next(state, node), () -> made.next(state, node));
+            next(stateNode(), node());
         } else {
             int a = node();
-            int b = random.nextInt(3) == 0 ? a : node();
-            both("compare(" + a + ", " + b + ")", () -> plain.compare(a, b), () -> made.compare(a, b));
+            compare(a, random.nextInt(3) == 0 ? a : node());
         }
     }
 
