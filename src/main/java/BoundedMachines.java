@@ -360,22 +360,24 @@ public final class BoundedMachines {
         }
     }
 
-    /** The search, level by level. Its arrays are made for the states there are, and used again by later searches. */
+    /** The search, level by level. Its arrays are made once, for the most states, and used again by every search. */
     private static final class Hunt {
 
         private static final int BITS_OF_A_WORD = 4;
         private static final int WORD_MASK = 15;
+        private static final int MOST_ROWS = 1 << Net.MOST_STATES;
 
         private final Net net;
         private final int[] lanes = new int[Net.MOST_NODES];
-        private int[] rows = new int[0];
+        private final int[] rows = new int[MOST_ROWS];
         // place of the row that a row came of, and the word by which it came (its lowest 4 bits)
-        private int[] origins = new int[0];
-        // level k is rows[levelStarts[k]] up to before rows[levelStarts[k + 1]]
-        private int[] levelStarts = new int[0];
-        private int[] program = new int[0];
+        private final int[] origins = new int[MOST_ROWS];
+        // level k is rows[levelStarts[k]] up to before rows[levelStarts[k + 1]]; two more than rows, since each row may
+        // be a level of its own, behind them is a level without rows, and its end is told too
+        private final int[] levelStarts = new int[MOST_ROWS + 2];
+        private final int[] program = new int[MOST_ROWS];
         // one bit for each row that there can be
-        private int[] known = new int[0];
+        private final int[] known = new int[MOST_ROWS >> 5];
         private int rowCount;
         private int clearLevels;
         private int programLength = NONE;
@@ -400,14 +402,7 @@ public final class BoundedMachines {
         }
 
         private void start() {
-            int size = 1 << net.stateCount;
-            if (rows.length < size) {
-                rows = new int[size];
-                origins = new int[size];
-                levelStarts = new int[size + 2];
-                program = new int[size];
-                known = new int[(size >> 5) + 1];
-            }
+            // the other arrays are written before they are read
             Arrays.fill(known, 0);
             keepIfNew(net.firstRow, 0, 0);
             rowCount = 1;

@@ -20,6 +20,7 @@ public final class PromiseTests {
         promise6SearchAnswers();
         promise6SearchRefusals();
         promise6LongestSearch();
+        promise6SearchAnew();
         promises7And8Program();
         promise8LeastOfEquallyShort();
         promises9To11Levels();
@@ -336,6 +337,40 @@ public final class PromiseTests {
         CHECKS.due("level 16383", 1, () -> equal.level(16383));
         CHECKS.due("level 16384", 0, () -> equal.level(16384));
         CHECKS.throwsIndex("level 16385", () -> equal.level(16385));
+    }
+
+    /** Nothing of a search before is left for the next one, whether it goes through more rows, fewer or the same. */
+    private static void promise6SearchAnew() {
+        BoundedMachines x = new BoundedMachines(1);
+        int top = counter(x, 3);
+        clearsAll("three states", x, 8);
+        int flipped = x.next(top, top);
+        clearsAll("the top state stays", x, 4);
+        x.next(top, flipped);
+        clearsAll("the top state counts again", x, 8);
+        x.next(top, flipped);
+        clearsAll("the same once more", x, 8);
+        x.state(1, true);
+        clearsAll("a state more that stays", x, 8);
+
+        x.compare(top, x.gate(4, 0, 0));
+        CHECKS.due("a pair that differs", 0, () -> x.search(20));
+        CHECKS.due("its length", 5, x::length);
+        CHECKS.due("its word before the last", 1, () -> x.word(3));
+        CHECKS.due("its last word", 0, () -> x.word(4));
+        x.next(top, top);
+        CHECKS.due("no program any more", 2, () -> x.search(20));
+        CHECKS.due("no length any more", BoundedMachines.NONE, x::length);
+        CHECKS.throwsIndex("no word any more", () -> x.word(0));
+    }
+
+    private static void clearsAll(String what, BoundedMachines x, int rows) {
+        CHECKS.due(what + ": search", 2, () -> x.search(20000));
+        CHECKS.due(what + ": seen", rows, x::seen);
+        CHECKS.due(what + ": clear", rows, x::clear);
+        CHECKS.due(what + ": the last row's level", 1, () -> x.level(rows - 1));
+        CHECKS.due(what + ": the level without rows", 0, () -> x.level(rows));
+        CHECKS.throwsIndex(what + ": no level behind it", () -> x.level(rows + 1));
     }
 
     private static int counterAndAll(BoundedMachines x, int states) {
