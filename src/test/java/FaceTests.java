@@ -5,7 +5,9 @@ import java.lang.reflect.Method;
 import java.lang.reflect.Modifier;
 import java.nio.file.Files;
 import java.nio.file.Path;
+import java.util.ArrayList;
 import java.util.Arrays;
+import java.util.List;
 import java.util.Set;
 import java.util.TreeSet;
 import java.util.regex.Matcher;
@@ -42,11 +44,8 @@ public final class FaceTests {
     private FaceTests() {
     }
 
-    public static void main(String[] args) throws IOException {
-        methods();
-        fieldsAndConstructors();
-        classesInside();
-        source(Files.readString(SOURCE));
+    public static void main(String[] args) {
+        CHECKS.runTests(FaceTests.class, "face", "language");
         CHECKS.end("FaceTests");
     }
 
@@ -65,20 +64,55 @@ public final class FaceTests {
         return text.toString();
     }
 
-    private static void methods() {
+    /** "public int state(int side, boolean first) throws .." and the others: these methods and no other */
+    static void faceMethods() {
         Set<String> open = new TreeSet<>();
-        Set<String> openNames = new TreeSet<>();
-        Set<String> hiddenNames = new TreeSet<>();
         for (Method method : BoundedMachines.class.getDeclaredMethods()) {
-            if (Modifier.isPrivate(method.getModifiers())) {
-                hiddenNames.add(method.getName());
-            } else {
+            if (!Modifier.isPrivate(method.getModifiers())) {
                 CHECKS.same(method.getName() + " is public", Modifier.PUBLIC, method.getModifiers());
                 open.add(told(method));
-                openNames.add(method.getName());
             }
         }
         CHECKS.same("the methods", new TreeSet<>(Arrays.asList(FACE)), open);
+    }
+
+    /** "public final class BoundedMachines" */
+    static void faceClass() {
+        CHECKS.same("its modifiers", Modifier.PUBLIC | Modifier.FINAL, BoundedMachines.class.getModifiers());
+        CHECKS.same("its package", "", BoundedMachines.class.getPackageName());
+        CHECKS.same("the class above it", Object.class, BoundedMachines.class.getSuperclass());
+        CHECKS.same("interfaces", 0, BoundedMachines.class.getInterfaces().length);
+    }
+
+    /** "public static final int NONE = -1;" and no other field */
+    static void faceConstant() throws IllegalAccessException {
+        List<String> open = new ArrayList<>();
+        for (Field field : BoundedMachines.class.getDeclaredFields()) {
+            if (!Modifier.isPrivate(field.getModifiers())) {
+                String modifiers = Modifier.toString(field.getModifiers());
+                open.add(modifiers + " " + field.getType() + " " + field.getName() + " = " + field.get(null));
+            }
+        }
+        CHECKS.same("the open fields", List.of("public static final int NONE = -1"), open);
+    }
+
+    /** "public BoundedMachines(int bits);" and no other constructor */
+    static void faceConstructor() {
+        Constructor<?>[] constructors = BoundedMachines.class.getDeclaredConstructors();
+        CHECKS.same("constructors", 1, constructors.length);
+        CHECKS.same("it is public", Modifier.PUBLIC, constructors[0].getModifiers());
+        CHECKS.same("its parameters", "[int]", Arrays.toString(constructors[0].getParameterTypes()));
+        CHECKS.same("its exceptions", 0, constructors[0].getExceptionTypes().length);
+    }
+
+    /** Rule 1: "No private method bears the name of a public one." */
+    static void languageHiddenNames() {
+        Set<String> openNames = new TreeSet<>();
+        Set<String> hiddenNames = new TreeSet<>();
+        for (Method method : BoundedMachines.class.getDeclaredMethods()) {
+            boolean hidden = Modifier.isPrivate(method.getModifiers());
+            (hidden ? hiddenNames : openNames).add(method.getName());
+        }
         for (Class<?> inside : BoundedMachines.class.getDeclaredClasses()) {
             for (Method method : inside.getDeclaredMethods()) {
                 hiddenNames.add(method.getName());
@@ -88,22 +122,8 @@ public final class FaceTests {
         CHECKS.same("hidden methods with a public one's name", Set.of(), hiddenNames);
     }
 
-    private static void fieldsAndConstructors() {
-        CHECKS.same("public final", Modifier.PUBLIC | Modifier.FINAL, BoundedMachines.class.getModifiers());
-        for (Field field : BoundedMachines.class.getDeclaredFields()) {
-            if (!Modifier.isPrivate(field.getModifiers())) {
-                CHECKS.same("the one open field", "NONE", field.getName());
-                CHECKS.same("its modifiers", Modifier.PUBLIC | Modifier.STATIC | Modifier.FINAL, field.getModifiers());
-                CHECKS.same("its type", int.class, field.getType());
-            }
-        }
-        Constructor<?>[] constructors = BoundedMachines.class.getDeclaredConstructors();
-        CHECKS.same("constructors", 1, constructors.length);
-        CHECKS.same("it is public", Modifier.PUBLIC, constructors[0].getModifiers());
-        CHECKS.same("its parameters", "[int]", Arrays.toString(constructors[0].getParameterTypes()));
-    }
-
-    private static void classesInside() {
+    /** Rules 1, 5 and 11: classes inside */
+    static void languageClassesInside() {
         Class<?>[] inside = BoundedMachines.class.getDeclaredClasses();
         CHECKS.same("at most twelve classes", true, inside.length <= 12);
         for (Class<?> each : inside) {
@@ -121,7 +141,9 @@ public final class FaceTests {
         }
     }
 
-    private static void source(String text) {
+    /** Words and characters that the rules forbid */
+    static void languageSource() throws IOException {
+        String text = Files.readString(SOURCE);
         String code = text.replaceAll("(?s)/\\*.*?\\*/", "").replaceAll("//[^\n]*", "").replaceAll("\"[^\"\n]*\"", "\"\"");
         for (String word : FORBIDDEN) {
             String edge = Character.isLetter(word.charAt(0)) || word.startsWith("\\") ? "\\b" : "";

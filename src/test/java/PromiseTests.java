@@ -33,26 +33,6 @@ public final class PromiseTests {
         CHECKS.end("PromiseTests");
     }
 
-    /** A counter of so many states on side 0 that goes up by one when bit 0 of the word is set; answers its top state. */
-    private static int counter(BoundedMachines x, int states) {
-        int carry = 0;
-        int top = 0;
-        for (int s = 0; s < states; s++) {
-            top = x.state(0, false);
-            int flipped = x.gate(2, top, carry);
-            carry = x.gate(0, top, carry);
-            x.next(top, flipped);
-        }
-        return top;
-    }
-
-    private static BoundedMachines counterAgainstNo(int states) {
-        BoundedMachines x = new BoundedMachines(1);
-        int top = counter(x, states);
-        x.compare(top, x.gate(4, 0, 0));
-        return x;
-    }
-
     private static void promise1NewObject() {
         int[][] bitsAndWant = {{1, 1}, {2, 2}, {3, 3}, {4, 4}, {5, 1}, {0, 4}, {-1, 3}, {-2, 2}, {-3, 1}, {-4, 4},
             {Integer.MAX_VALUE, 3}, {Integer.MIN_VALUE, 4}, {Integer.MIN_VALUE + 1, 1}};
@@ -119,7 +99,7 @@ public final class PromiseTests {
 
     /** A machine that was searched with success and has run a cycle by hand. */
     private static BoundedMachines searched() {
-        BoundedMachines x = counterAgainstNo(2);
+        BoundedMachines x = Machines.counterAgainstNo(2);
         CHECKS.due("search before a change", 0, () -> x.search(20));
         x.cycle(1);
         x.cycle(1);
@@ -277,7 +257,7 @@ public final class PromiseTests {
     }
 
     private static void promise6SearchAnswers() {
-        BoundedMachines x = counterAgainstNo(3);
+        BoundedMachines x = Machines.counterAgainstNo(3);
         CHECKS.due("search(4)", 1, () -> x.search(4));
         CHECKS.due("clear", 4, x::clear);
         CHECKS.due("fewer levels than are clear", 1, () -> x.search(1));
@@ -287,7 +267,7 @@ public final class PromiseTests {
         CHECKS.due("clear in the end", 4, x::clear);
 
         BoundedMachines equal = new BoundedMachines(1);
-        int a = counter(equal, 2);
+        int a = Machines.counter(equal, 2);
         equal.compare(a, a);
         CHECKS.due("equal pair, level 3 has a row", 1, () -> equal.search(3));
         CHECKS.due("equal pair, no row in level 4", 2, () -> equal.search(4));
@@ -304,7 +284,7 @@ public final class PromiseTests {
     }
 
     private static void promise6SearchRefusals() {
-        BoundedMachines x = counterAgainstNo(2);
+        BoundedMachines x = Machines.counterAgainstNo(2);
         for (int depth : new int[] {0, -1, 20001, Integer.MIN_VALUE, Integer.MAX_VALUE}) {
             CHECKS.throwsArgument("search(" + depth + ")", () -> x.search(depth));
         }
@@ -316,7 +296,7 @@ public final class PromiseTests {
     /** Fourteen states that count through all rows: as many levels as there can be. */
     private static void promise6LongestSearch() {
         BoundedMachines x = new BoundedMachines(1);
-        int all = counterAndAll(x, 14);
+        int all = Machines.counterAndAll(x, 14);
         x.compare(all, x.gate(4, 0, 0));
         CHECKS.due("search(16383)", 1, () -> x.search(16383));
         CHECKS.due("clear before the last level", 16383, x::clear);
@@ -330,7 +310,7 @@ public final class PromiseTests {
         CHECKS.due("its cycles", 16384, () -> x.count(6));
 
         BoundedMachines equal = new BoundedMachines(1);
-        counterAndAll(equal, 14);
+        Machines.counterAndAll(equal, 14);
         CHECKS.due("all levels clear", 2, () -> equal.search(20000));
         CHECKS.due("as many as there are rows", 16384, equal::clear);
         CHECKS.due("all rows", 16384, equal::seen);
@@ -342,7 +322,7 @@ public final class PromiseTests {
     /** Nothing of a search before is left for the next one, whether it goes through more rows, fewer or the same. */
     private static void promise6SearchAnew() {
         BoundedMachines x = new BoundedMachines(1);
-        int top = counter(x, 3);
+        int top = Machines.counter(x, 3);
         clearsAll("three states", x, 8);
         int flipped = x.next(top, top);
         clearsAll("the top state stays", x, 4);
@@ -373,21 +353,8 @@ public final class PromiseTests {
         CHECKS.throwsIndex(what + ": no level behind it", () -> x.level(rows + 1));
     }
 
-    private static int counterAndAll(BoundedMachines x, int states) {
-        int carry = 0;
-        int all = x.gate(5, 0, 0);
-        for (int s = 0; s < states; s++) {
-            int state = x.state(s % 2, false);
-            int flipped = x.gate(2, state, carry);
-            carry = x.gate(0, state, carry);
-            x.next(state, flipped);
-            all = x.gate(0, all, state);
-        }
-        return all;
-    }
-
     private static void promises7And8Program() {
-        BoundedMachines x = counterAgainstNo(2);
+        BoundedMachines x = Machines.counterAgainstNo(2);
         CHECKS.due("length before", -1, x::length);
         CHECKS.throwsIndex("word(0) before", () -> x.word(0));
         CHECKS.throwsIndex("word(-1) before", () -> x.word(-1));
@@ -450,7 +417,7 @@ public final class PromiseTests {
             CHECKS.throwsIndex("level(" + k + ") in the end", () -> x.level(k));
         }
 
-        BoundedMachines found = counterAgainstNo(2);
+        BoundedMachines found = Machines.counterAgainstNo(2);
         found.search(20);
         CHECKS.due("clear when found", 2, found::clear);
         CHECKS.due("seen when found", 3, found::seen);
@@ -466,7 +433,7 @@ public final class PromiseTests {
     }
 
     private static void promise11BeforeAnySearch() {
-        BoundedMachines x = counterAgainstNo(2);
+        BoundedMachines x = Machines.counterAgainstNo(2);
         CHECKS.due("level(0) before any search", 0, () -> x.level(0));
         CHECKS.throwsIndex("level(1) before any search", () -> x.level(1));
         CHECKS.throwsIndex("level(-1) before any search", () -> x.level(-1));
@@ -538,7 +505,7 @@ public final class PromiseTests {
     }
 
     private static void promise15Replay() {
-        BoundedMachines x = counterAgainstNo(2);
+        BoundedMachines x = Machines.counterAgainstNo(2);
         x.cycle(1);
         CHECKS.due("replay without a program", -1, x::replay);
         CHECKS.due("the run by hand stays as it is", 1, () -> x.count(6));
