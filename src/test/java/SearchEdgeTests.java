@@ -123,7 +123,7 @@ public final class SearchEdgeTests {
         CHECKS.due("seen after fewer", 6, x::seen);
     }
 
-    /** "one that differs was found: .. 0": in the last level that depth leaves, not in the one behind it */
+    /** "one that differs was found .. 0 when": in the last level that depth leaves, not in the one behind it */
     static void promise6FoundInTheLastLevelAsked() {
         BoundedMachines tooShort = Machines.counterAgainstNo(3);
         CHECKS.due("one level too few", 1, () -> tooShort.search(4));
@@ -186,6 +186,17 @@ public final class SearchEdgeTests {
         CHECKS.due("by it", 0, () -> x.search(4));
         CHECKS.due("length", 4, x::length);
         CHECKS.due("clear", 3, x::clear);
+    }
+
+    /** "else 1": rows are left, and none of those that were asked differs */
+    static void promise6ElseOne() {
+        BoundedMachines x = Machines.widestLevels();
+        for (int depth = 1; depth <= 4; depth++) {
+            int asked = depth;
+            CHECKS.due("search(" + depth + ")", 1, () -> x.search(asked));
+            CHECKS.due("rows that are left", true, () -> x.level(asked) > 0);
+            CHECKS.due("length", -1, x::length);
+        }
     }
 
     /** Empty: without states the beginning is the only row. */
