@@ -1,13 +1,16 @@
 import java.io.IOException;
 import java.lang.reflect.Constructor;
 import java.lang.reflect.Field;
+import java.lang.reflect.InvocationTargetException;
 import java.lang.reflect.Method;
 import java.lang.reflect.Modifier;
 import java.nio.file.Files;
 import java.nio.file.Path;
 import java.util.ArrayList;
 import java.util.Arrays;
+import java.util.Comparator;
 import java.util.List;
+import java.util.Random;
 import java.util.Set;
 import java.util.TreeSet;
 import java.util.regex.Matcher;
@@ -17,6 +20,9 @@ import java.util.regex.Pattern;
 public final class FaceTests {
     private static final Checks CHECKS = new Checks();
     private static final Path SOURCE = Path.of("src/main/java/BoundedMachines.java");
+    private static final Path DOCUMENT = Path.of("../shared/DOC.md");
+    private static final int[] DRAWN = {-1, 0, 0, 1, 1, 2, 3, 4, 5, 6, 7, 8, 13, 14, 15, 99, 100, 101, 20000, 20001,
+        Integer.MIN_VALUE, Integer.MAX_VALUE};
 
     private static final String[] FACE = {
         "int state(int, boolean) IllegalArgumentException UnsupportedOperationException",
@@ -74,6 +80,23 @@ public final class FaceTests {
             }
         }
         CHECKS.same("the methods", new TreeSet<>(Arrays.asList(FACE)), open);
+    }
+
+    /** The document's lines stand in the source as they are, the names of what is given included. */
+    static void faceAsTheDocumentWritesIt() throws IOException {
+        String source = Files.readString(SOURCE);
+        Pattern face = Pattern.compile("(?s)## The public face.*?```java\n(.*?)```");
+        Matcher block = face.matcher(Files.readString(DOCUMENT));
+        CHECKS.same("the document has a face", true, block.find());
+        int members = 0;
+        for (String line : block.group(1).split("\n")) {
+            if (line.endsWith(";")) {
+                members++;
+                String written = line.contains("=") ? line : line.replace(";", " {");
+                CHECKS.same(line.strip(), true, source.contains("\n" + written + "\n"));
+            }
+        }
+        CHECKS.same("members", 2 + FACE.length, members);
     }
 
     /** "public final class BoundedMachines" */
@@ -138,6 +161,43 @@ public final class FaceTests {
                 }
             }
             CHECKS.same(each + " has at most twenty fields", true, fields <= 20);
+        }
+    }
+
+    /** Rules 6 and 7: a call throws what its line of the face tells, by that very class, and nothing else. */
+    static void languageNothingElseIsThrown() throws IllegalAccessException {
+        Random random = new Random(7);
+        Method[] methods = BoundedMachines.class.getMethods();
+        Arrays.sort(methods, Comparator.comparing(Method::toString));
+        int thrown = 0;
+        for (int objects = 0; objects < 200; objects++) {
+            BoundedMachines x = new BoundedMachines(random.nextInt());
+            for (int calls = 0; calls < 512; calls++) {
+                Method method = methods[random.nextInt(methods.length)];
+                if (method.getDeclaringClass() == BoundedMachines.class && !throwsWhatItTells(method, x, random)) {
+                    thrown++;
+                }
+            }
+        }
+        CHECKS.same("calls that threw something else", 0, thrown);
+    }
+
+    private static boolean throwsWhatItTells(Method method, BoundedMachines x, Random random)
+            throws IllegalAccessException {
+        Object[] given = new Object[method.getParameterCount()];
+        for (int k = 0; k < given.length; k++) {
+            boolean yesOrNo = method.getParameterTypes()[k] == boolean.class;
+            given[k] = yesOrNo ? (Object) random.nextBoolean() : (Object) DRAWN[random.nextInt(DRAWN.length)];
+        }
+        try {
+            method.invoke(x, given);
+            return true;
+        } catch (InvocationTargetException e) {
+            boolean told = Arrays.asList(method.getExceptionTypes()).contains(e.getCause().getClass());
+            if (!told) {
+                System.out.println(method.getName() + Arrays.toString(given) + " threw " + e.getCause());
+            }
+            return told;
         }
     }
 

@@ -71,6 +71,29 @@ final class Machines {
         return x;
     }
 
+    /**
+     * A counter on side 0, and on side 1 one whose states are NOT of these; each of its states, NOT of it, is compared
+     * with its twin. The faulty one never lets the top state of side 1 change.
+     */
+    static BoundedMachines twoCounters(int states, boolean faulty) {
+        BoundedMachines x = new BoundedMachines(1);
+        int carry = 0;
+        int otherCarry = 0;
+        for (int s = 0; s < states; s++) {
+            int state = x.state(0, false);
+            int other = x.state(1, true);
+            int notOther = x.gate(3, other, 0);
+            x.next(state, x.gate(2, state, carry));
+            carry = x.gate(0, state, carry);
+            if (!faulty || s < states - 1) {
+                x.next(other, x.gate(2, other, otherCarry));
+                otherCarry = x.gate(0, notOther, otherCarry);
+            }
+            x.compare(state, notOther);
+        }
+        return x;
+    }
+
     /** Gates YES up to node 99. */
     static BoundedMachines fullOfNodes(int bits) {
         BoundedMachines x = new BoundedMachines(bits);

@@ -177,6 +177,17 @@ public final class SearchEdgeTests {
         CHECKS.due("length", -1, x::length);
     }
 
+    /** "2 .. (all programs are clear, whatever their length)": also far longer ones than there are levels */
+    static void promise6WhateverTheirLength() {
+        BoundedMachines x = Machines.twoCounters(3, false);
+        CHECKS.due("search", 2, () -> x.search(20000));
+        CHECKS.due("levels", 8, x::clear);
+        for (int cycle = 0; cycle < 400; cycle++) {
+            int word = cycle % 5 == 0 ? 0 : 1;
+            CHECKS.due("cycle " + cycle, false, () -> x.cycle(word));
+        }
+    }
+
     /** "0 when ..": a last row that differs is a program, though no row would come behind it */
     static void promise6DiffersInTheLastRow() {
         BoundedMachines x = new BoundedMachines(1);

@@ -53,6 +53,27 @@ public final class TermsTests {
         CHECKS.due("seen as call 512", 16384, x::seen);
     }
 
+    /** "NODES have a truth in each cycle": those of each kind, in one cycle after the other */
+    static void termsNodesHaveATruthInEachCycle() {
+        BoundedMachines x = new BoundedMachines(1);
+        int state = x.state(1, true);
+        x.next(state, 0);
+        for (int op = 0; op <= 5; op++) {
+            x.gate(op, 0, state);
+        }
+        // word bit, state, AND, OR, EXCLUSIVE OR, NOT, NO, YES
+        String[] want = {"01011101", "00000101", "10011001", "11110001", "01011101"};
+        int[] words = {0, 0, 1, 1, 0};
+        for (int cycle = 0; cycle < words.length; cycle++) {
+            x.cycle(words[cycle]);
+            StringBuilder got = new StringBuilder();
+            for (int node = 0; node < x.count(1); node++) {
+                got.append(x.truth(node) ? '1' : '0');
+            }
+            CHECKS.same("cycle " + cycle, want[cycle], got.toString());
+        }
+    }
+
     /** "first B WORD BITS (node k is bit k of the cycle's word)" */
     static void termsWordBitsAreTheFirstNodes() {
         for (int bits = 1; bits <= 4; bits++) {
@@ -189,6 +210,29 @@ public final class TermsTests {
         }
     }
 
+    /** B is 2; of side 0 node 2 is false and node 3 true for ever, of side 1 node 4 true; node 5 is AND of the word. */
+    private static BoundedMachines nodesOfAllKinds() {
+        BoundedMachines x = new BoundedMachines(2);
+        x.state(0, false);
+        x.state(0, true);
+        x.state(1, true);
+        x.gate(0, 0, 1);
+        return x;
+    }
+
+    /** "PAIRS of nodes are COMPARED": of any nodes, also two word bits, two states of one side, a state and a gate */
+    static void termsPairsAreOfAnyNodes() {
+        int[][] pairs = {{0, 1}, {2, 3}, {3, 4}, {4, 5}, {5, 1}, {0, 2}};
+        boolean[] differsByWordTwo = {true, true, false, true, true, false};
+        for (int pair = 0; pair < pairs.length; pair++) {
+            BoundedMachines x = nodesOfAllKinds();
+            int a = pairs[pair][0];
+            int b = pairs[pair][1];
+            CHECKS.due("compare(" + a + ", " + b + ")", 1, () -> x.compare(a, b));
+            CHECKS.due("they differ by word 2", differsByWordTwo[pair], () -> x.cycle(2));
+        }
+    }
+
     /** "in a cycle the machines DIFFER, if some pair has two truths": either way round */
     static void termsPairWithTwoTruthsDiffers() {
         BoundedMachines x = new BoundedMachines(2);
@@ -251,6 +295,18 @@ public final class TermsTests {
         }
     }
 
+    /** "a row of words .., one a cycle": a program has as many words as its run has cycles */
+    static void termsProgramHasOneWordACycle() {
+        for (int states = 1; states <= 6; states++) {
+            BoundedMachines x = Machines.counterAgainstNo(states);
+            CHECKS.due("search", 0, () -> x.search(20000));
+            x.replay();
+            int words = (1 << states - 1) + 1;
+            CHECKS.due("words with " + states + " states", words, x::length);
+            CHECKS.due("cycles with " + states + " states", words, () -> x.count(6));
+        }
+    }
+
     /** "it is RUN from the beginning (all states as at first)": wherever the run by hand is */
     static void termsProgramIsRunFromTheBeginning() {
         BoundedMachines x = Machines.counterAgainstNo(2);
@@ -275,6 +331,17 @@ public final class TermsTests {
         }
         CHECKS.due("their two rows", 2, () -> x.search(20000));
         CHECKS.due("no row with both alike", 2, x::seen);
+    }
+
+    /** "of those that differ (in their last cycle)": in the last one, and in none before */
+    static void termsLeastProgramDiffersInItsLastCycle() {
+        BoundedMachines x = Machines.counterAgainstNo(4);
+        CHECKS.due("search", 0, () -> x.search(20));
+        x.begin();
+        for (int k = 0; k < x.length(); k++) {
+            int word = x.word(k);
+            CHECKS.due("cycle " + k, k == x.length() - 1, () -> x.cycle(word));
+        }
     }
 
     /** "THE LEAST program .. is the shortest one": also when a longer one has smaller words */
@@ -314,6 +381,33 @@ public final class TermsTests {
         CHECKS.due("length", 2, x::length);
         CHECKS.due("word(0)", 0, () -> x.word(0));
         CHECKS.due("word(1)", 2, () -> x.word(1));
+    }
+
+    /** "ROWS of all states' truths": also of a state that nothing looks at, on either side */
+    static void termsRowsAreOfAllStates() {
+        for (int side = 0; side <= 1; side++) {
+            BoundedMachines x = new BoundedMachines(1);
+            int asked = x.state(1 - side, false);
+            x.compare(asked, asked);
+            int idle = x.state(side, false);
+            CHECKS.due("both stay", 2, () -> x.search(20));
+            CHECKS.due("one row", 1, x::seen);
+            x.next(idle, 0);
+            CHECKS.due("the one that nothing looks at changes", 2, () -> x.search(20));
+            CHECKS.due("two rows", 2, x::seen);
+        }
+    }
+
+    /** "LEVEL by level": all of a level is asked before what comes of it */
+    static void termsLevelByLevel() {
+        BoundedMachines x = Machines.widestLevels();
+        int[] want = {1, 15, 240, 3840};
+        for (int k = 0; k < want.length; k++) {
+            int level = k;
+            CHECKS.due("search(" + (k + 1) + ")", 1, () -> x.search(level + 1));
+            CHECKS.due("levels that are clear", level + 1, x::clear);
+            CHECKS.due("rows of the last of them", want[k], () -> x.level(level));
+        }
     }
 
     /** "level 0 is the beginning": the one row of all states as at first, even if it never comes again */
@@ -428,6 +522,21 @@ public final class TermsTests {
         CHECKS.due("word(0)", 1, () -> x.word(0));
         CHECKS.due("word(1)", 2, () -> x.word(1));
         CHECKS.due("word(2)", 0, () -> x.word(2));
+    }
+
+    /** "Of several exceptions the first one told is thrown.": by each call that has two, when both are due */
+    static void termsFirstExceptionToldIsThrown() {
+        BoundedMachines x = Machines.fullOfNodes(1);
+        for (int pair = 0; pair < 16; pair++) {
+            x.compare(0, 0);
+        }
+        CHECKS.throwsUnsupported("state, full", () -> x.state(0, true));
+        CHECKS.throwsArgument("state, full and no side", () -> x.state(2, true));
+        CHECKS.throwsUnsupported("gate, full", () -> x.gate(0, 0, 0));
+        CHECKS.throwsArgument("gate, full and no op", () -> x.gate(6, 0, 0));
+        CHECKS.throwsArgument("gate, full and no node", () -> x.gate(0, 0, 100));
+        CHECKS.throwsUnsupported("compare, full", () -> x.compare(0, 0));
+        CHECKS.throwsArgument("compare, full and no node", () -> x.compare(0, 100));
     }
 
     /** "The constants: `NONE = -1`: Nothing there." */
