@@ -1,4 +1,4 @@
-/** The sentences before the promises, "What it is" and "Terms": a test each (the face itself is in FaceTests). */
+/** What stands before and behind the promises, "What it is", "Terms" and "Not promised" (the face is in FaceTests). */
 public final class TermsTests {
     private static final Checks CHECKS = new Checks();
 
@@ -6,7 +6,7 @@ public final class TermsTests {
     }
 
     public static void main(String[] args) {
-        CHECKS.runTests(TermsTests.class, "whatItIs", "terms");
+        CHECKS.runTests(TermsTests.class, "whatItIs", "terms", "notPromised");
         CHECKS.end("TermsTests");
     }
 
@@ -547,5 +547,44 @@ public final class TermsTests {
         CHECKS.due("no replay", BoundedMachines.NONE, x::replay);
         CHECKS.due("no pair", BoundedMachines.NONE, () -> x.count(7));
         CHECKS.due("no such count", BoundedMachines.NONE, () -> x.count(8));
+    }
+
+    /** What can be asked without a change, with right and wrong numbers. */
+    private static String allAnswers(BoundedMachines x) {
+        StringBuilder answers = new StringBuilder();
+        answers.append(x.length()).append(' ').append(x.clear()).append(' ').append(x.seen());
+        for (int k = -1; k <= 7; k++) {
+            int asked = k;
+            answers.append(' ').append(Checks.outcome(() -> x.word(asked)));
+            answers.append(' ').append(Checks.outcome(() -> x.level(asked)));
+            answers.append(' ').append(Checks.outcome(() -> x.truth(asked)));
+            answers.append(' ').append(x.count(k));
+        }
+        return answers.toString();
+    }
+
+    private static void answersTheSameAgain(String when, BoundedMachines x) {
+        String once = allAnswers(x);
+        CHECKS.same("asked again " + when, once, allAnswers(x));
+    }
+
+    /** "Nothing is promised beyond the .. state changes described above": none is, of those that only ask */
+    static void notPromisedAskingChangesNothing() {
+        BoundedMachines x = Machines.counterAgainstNo(3);
+        answersTheSameAgain("before all", x);
+        CHECKS.due("search", 1, () -> x.search(2));
+        x.cycle(1);
+        answersTheSameAgain("while the search goes on", x);
+        CHECKS.due("the search goes on", 1, () -> x.search(4));
+        x.cycle(1);
+        CHECKS.due("the run by hand goes on", 2, () -> x.count(6));
+        CHECKS.due("so does the low state", true, () -> x.truth(1));
+        CHECKS.due("the program is found", 0, () -> x.search(5));
+        answersTheSameAgain("when the program is known", x);
+        CHECKS.due("replay", 4, x::replay);
+        answersTheSameAgain("behind the program", x);
+        CHECKS.due("a cycle goes on from there", true, () -> x.cycle(0));
+        CHECKS.due("cycles", 6, () -> x.count(6));
+        CHECKS.due("pairs", 1, () -> x.count(5));
     }
 }
